@@ -4,6 +4,7 @@ public final class P05OffsetTest {
         Due due = new Due();
         meets(due);
         firstMeetingCounts(due);
+        barelyAbove(due);
         slackMovesTheLine(due);
         greatNumbers(due);
         refusals(due);
@@ -48,6 +49,14 @@ public final class P05OffsetTest {
         none(due, "not met yet", later, 20);
         later.row(40, 160);
         due.fraction("rows that came after the modulus count", 3000, 19, part -> later.offset(20, part));
+    }
+
+    private static void barelyAbove(Due due) {
+        StrainRows x = Due.rows(0, 0, 3, 1);
+        x.slope(0, 3, 0);
+        none(due, "a third above the line is not met", x, 1);
+        x.row(4, 0);
+        due.fraction("a third above the line is above", 3, 4, part -> x.offset(1, part));
     }
 
     private static void slackMovesTheLine(Due due) {
