@@ -52,6 +52,15 @@ final class Due {
         }
     }
 
+    void takes(String what, Deed deed) {
+        checks++;
+        try {
+            deed.run();
+        } catch (RuntimeException thrown) {
+            tell(what + " threw " + thrown + ", due is that it is taken");
+        }
+    }
+
     void holds(String what, boolean so) {
         checks++;
         if (!so) {

@@ -6,6 +6,7 @@ public final class P14InvalidTest {
         rowCount(due);
         peakAtRowZero(due);
         behindThePeak(due);
+        peakInTheLastRow(due);
         due.end();
     }
 
@@ -60,8 +61,26 @@ public final class P14InvalidTest {
                 told(0, 0, 1, 10, 2, 8, 3, 7, 4, 10)::invalid);
         due.answers("a failing fall right behind the first of two peaks", 0,
                 told(0, 0, 1, 10, 2, 1, 3, 10, 4, 10)::invalid);
+        due.answers("0 is below a half of 1", 0, told(0, 0, 1, 1, 2, 1, 3, 1, 4, 0)::invalid);
+        due.answers("1 is not below a half of 1", 4, told(0, 0, 1, 1, 2, 1, 3, 1, 4, 1)::invalid);
+        due.answers("1 is not below a half of 2", 4, told(0, 0, 1, 2, 2, 1, 3, 1, 4, 1)::invalid);
+        due.answers("the peak in the row ahead of the last", 4, told(0, 0, 1, 1, 2, 1, 3, 9, 4, 5)::invalid);
         due.answers("great forces", 0, told(0, 0, 1, 1_000_000, 2, 8, 3, 7, 4, 499_999)::invalid);
         due.answers("great forces, a half", 4,
                 told(0, 0, 1, 1_000_000, 2, 800_000, 3, 700_000, 4, 500_000)::invalid);
+    }
+
+    /** A peak in the last row keeps rule 4, and the rules behind it still count. */
+    private static void peakInTheLastRow(Due due) {
+        StrainRows x = told(0, 0, 1, 1, 2, 2, 3, 3, 4, 9);
+        due.answers("no check", 0, x::invalid);
+        x.machine(99, 100);
+        due.answers("a failed check", 5, x::invalid);
+        x.row(5, 9);
+        due.answers("the same force behind it: the peak is no more in the last row", 4, x::invalid);
+        x.row(6, 10);
+        due.answers("a greater one behind it: the last row again", 5, x::invalid);
+        x.machine(100, 101);
+        due.answers("a check just within", 0, x::invalid);
     }
 }
